@@ -1024,6 +1024,11 @@ public final class StackWords {
                     return;
                 }
                 readItem();
+                if (scanner.fault == 0 && itemSort == SORT_TIMES) {
+                    scanner.advance();
+                    requireNumber(1, 9);
+                    itemValue = scanner.value;
+                }
                 if (scanner.fault == 0) {
                     addItem();
                 }
@@ -1090,14 +1095,8 @@ public final class StackWords {
             }
             open[openCount] = code.items;
             openCount++;
-            itemSort = SORT_IF;
+            itemSort = scanner.isKey(KEY_IF) ? SORT_IF : SORT_TIMES;
             itemValue = 0;
-            if (scanner.isKey(KEY_TIMES)) {
-                scanner.advance();
-                requireNumber(1, 9);
-                itemSort = SORT_TIMES;
-                itemValue = scanner.value;
-            }
         }
 
         private void readClosing() {
@@ -1209,8 +1208,8 @@ public final class StackWords {
         }
 
         private int change(int off, int on, int reach) {
-            needs = Math.max(needs, off - height);
-            high = Math.max(high, height + reach);
+            needs = off - height > needs ? off - height : needs;
+            high = height + reach > high ? height + reach : high;
             height += on - off;
             return needs > MOST_NEEDS || high > MOST_HIGH ? FAULT_DEPTH : 0;
         }
