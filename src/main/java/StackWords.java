@@ -152,8 +152,7 @@ public final class StackWords {
         current = spare;
         spare = old;
         tapeLength = 0;
-        acts.forget();
-        acts.state().begin(current.draw);
+        acts.restart().begin(current.draw);
         keptBoxes = 0;
         sightings.forget();
         shuffler.found = 0;
@@ -469,8 +468,7 @@ public final class StackWords {
         if (box < 0 || box >= BOXES || (keptBoxes >> box & 1) == 0) {
             return NONE;
         }
-        acts.forget();
-        acts.state().copyFrom(boxes[box]);
+        acts.restart().copyFrom(boxes[box]);
         return boxes[box].count;
     }
 
@@ -1437,10 +1435,11 @@ public final class StackWords {
             return true;
         }
 
-        void forget() {
-            oldest = (oldest + done) % (MOST_ACTS + 1);
+        /** No ACTS are kept; what the state is then is for who calls to tell. */
+        State restart() {
             done = 0;
             known = 0;
+            return state();
         }
     }
 
@@ -1888,7 +1887,6 @@ public final class StackWords {
         }
 
         int saved(Code code, int word) {
-            int lyingBefore = found;
             int less = 0;
             int at = code.start[word];
             while (at < code.start[word + 1]) {
@@ -1899,7 +1897,6 @@ public final class StackWords {
                 }
                 at += Math.max(1, length);
             }
-            found = lyingBefore;
             return less;
         }
 

@@ -32,6 +32,8 @@ final class Check {
 
     static int[] numbers(byte[] text) {
         byte[] whole = Arrays.copyOf(text, (text.length + 19) / 20 * 20);
+        // What is behind the end of a text must never be read: so it is what would be read on.
+        Arrays.fill(whole, text.length, whole.length, (byte) "a1; z".charAt(text.length % 5));
         int[] numbers = new int[whole.length / 4];
         for (int i = 0; i < whole.length; i++) {
             numbers[i / 4] = numbers[i / 4] << 8 | whole[i] & 0xFF;

@@ -71,6 +71,21 @@ public final class CostsTest {
         value("9999", 99);
         value("1 < 2 and 2 < 3", 1);
         value("not (not (1))", 1);
+        value("1" + "+1".repeat(29), 30);
+        value("5 + " + "(0 + ".repeat(7) + "kind" + ")".repeat(7) + " * 2", 31);
+        String nots = "not not not not not not not ";
+        value(nots + "7" + (" and " + nots + "0").repeat(29), 0);
+        value(nots + "7" + (" or " + nots + "0").repeat(29), 1);
+        value("0 or 1 and 0 < 0 + 1 * (0 or 1 and 0 < 0 + 1 * (0 or 1 and 0 < 0 + 1 * (0 or 1 and 0 < 0 + 1 * (0 or 1 and 0 < 0 + 1 * kind))))", 1);
+        StackWords x = new StackWords();
+        for (int n = 0; n < 40; n++) {
+            Check.due("again and again", Check.code(x, "takes 1 + 2 * " + n + ";"), 0);
+            Check.due("again and again", x.takes(0, 0), 1 + 2 * n);
+            Check.due("again and again", x.about(11), 3);
+        }
+        Check.due("not told any more", Check.code(x, "draw 1;"), 0);
+        Check.due("plain again", x.takes(2, 0), 3);
+        Check.due("no units", x.about(11), 0);
     }
 
     private static final String TEXT = "word a = 3 add neg;"

@@ -34,6 +34,7 @@ public final class ShufflesTest {
         Check.due("to nothing", x.shuffled(1, DROP), 0);
         Check.due("seven", x.shuffled(3, 5555555), 231);
         Check.due("five cells between", x.shuffled(3, row(DUP, DUP, DROP)), 1233);
+        Check.due("five of the greatest between", x.shuffled(3, row(NIP, NIP, DUP, DUP, DUP, DUP, DROP)), 3333);
         Check.due("five at the end", x.shuffled(3, row(DUP, DUP)), -1);
         Check.due("six between", x.shuffled(3, row(DUP, DUP, DUP, DROP, DROP)), -1);
         Check.due("not there", x.shuffled(0, DUP), -1);

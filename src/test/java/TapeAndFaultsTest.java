@@ -56,6 +56,14 @@ public final class TapeAndFaultsTest {
         Check.due("tape", x.about(10), 3);
         Check.due("end(4)", x.end(4), -1);
         Check.due("end(0)", x.end(0), 0);
+        String[] cut = {"word ab", "word a = 12", "word a = ab", "flips 10", "takes 1 + form"};
+        for (String text : cut) {
+            StackWords y = new StackWords();
+            Check.tape(y, (text + text.charAt(text.length() - 1)).getBytes());
+            y.end(text.length());
+            y.code();
+            Check.due("cut: " + text, y.fault(1), text.endsWith("= ab") ? 9 : text.length());
+        }
     }
 
     private static void coding() {
@@ -128,6 +136,11 @@ public final class TapeAndFaultsTest {
             Check.of("word " + word + " = ;");
         }
         Check.faultAtMark("word a = ; word ^a = ;", 3);
+        Check.faultAtMark("word abcdefgh = ; word b = ; word ^abcdefgh = ;", 3);
+        StackWords names = Check.of("word ab = ; word ba = ; word b = ; word aa = ; word abcdefgh = ; word abcdefgi = ab ba b aa abcdefgh;");
+        for (int i = 0; i < 5; i++) {
+            Check.due("name " + i, names.item(5, i, 1), i);
+        }
         Check.of("word a=;word b=;word c=;word d=;word f=;word g=;");
         Check.faultAtMark("word a=;word b=;word c=;word d=;word f=;word g=;^word a=;", 2);
         Check.faultAtMark("flips 1; ^flips 2;", 2);
