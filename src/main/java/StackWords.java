@@ -779,7 +779,7 @@ public final class StackWords {
             units = 0;
         }
 
-        void readLevel(int level, int depth) {
+        private void readLevel(int level, int depth) {
             if (level >= LEVEL_UNIT) {
                 readUnit(depth);
                 return;
