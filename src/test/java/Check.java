@@ -1,5 +1,7 @@
 import java.nio.charset.StandardCharsets;
 import java.util.Arrays;
+import java.util.function.Supplier;
+import java.util.function.ToLongFunction;
 
 /** Counts answers that are not as due, and puts texts on a TAPE. */
 final class Check {
@@ -76,5 +78,16 @@ final class Check {
     static void faultAtMark(String marked, int what) {
         int place = marked.indexOf('^');
         fault(marked.substring(0, place) + marked.substring(place + 1), what, place);
+    }
+
+    /** A call that does nothing: what it answers, and that all which can be seen is as if it had not been called. */
+    static void leavesAll(String told, Supplier<StackWords> made, ToLongFunction<StackWords> call, long want) {
+        StackWords with = made.get();
+        due(told, call.applyAsLong(with), want);
+        samePrint(told + " leaves all as it was", Print.of(with), Print.of(made.get()));
+    }
+
+    static void samePrint(String told, String got, String want) {
+        due(told + (got.equals(want) ? "" : ": " + Print.difference(got, want)), got.equals(want), true);
     }
 }
