@@ -278,6 +278,13 @@ public final class AnswersEdgesTest {
         Check.due("a loop on a way", timeOf("if times 3 neg next else neg then", takes, 0), 18 + 96);
         Check.due("a way in a loop", timeOf("times 3 dup if neg else then next", takes, 0), 3 * (19 + 1 + 18 + 13));
         Check.due("a way on a way", timeOf("if dup if neg neg else then else neg then", takes, 0), 18 + (1 + 18 + 26));
+        // 2 * (19 + 2 * (19 + 2 * (19 + 2 * (19 + 13)))) = 778, be there others ahead that are closed.
+        String deep = "times 2 times 2 times 2 times 2 neg next next next next";
+        Check.due("four deep", timeOf(deep, takes, 0), 778);
+        Check.due("four deep behind a loop", timeOf("times 1 next " + deep, takes, 0), 19 + 778);
+        Check.due("four deep behind an if", timeOf("if then " + deep, takes, 0), 18 + 778);
+        Check.due("four deep behind two ways", timeOf("if else then if else then " + deep, takes, 0), 36 + 778);
+        Check.due("four ifs behind two ways", timeOf("if else then 1 if 1 if 1 if 1 if neg else then else then else then else then", takes, 0), 18 + 4 * (16 + 18) + 13);
         Check.due("another way behind it", timeOf("if neg else then dup if else neg neg then", takes, 0), 18 + 13 + 1 + 18 + 26);
     }
 

@@ -20,6 +20,7 @@ public final class MachineEdgesTest {
         noSuchThing();
         wrapping();
         branches();
+        onlyCell();
         callsThatNeed();
         callsThatGoHigh();
         callsWithThingsPutBy();
@@ -218,6 +219,20 @@ public final class MachineEdgesTest {
         // c makes 30 of 1, so b is done with 3 and 0; of -2 it makes 0, so a is.
         Check.due("words on ways", behind.comes(3, 3, 0, 1, 0), -9);
         Check.due("words on ways", behind.comes(3, 3, 0, -2, 0), -4);
+    }
+
+    /** An if that takes the only cell there is. */
+    private static void onlyCell() {
+        int[][] due = {{0, 20}, {1, 10}, {9999, 10}};
+        for (int[] d : due) {
+            StackWords x = Check.of("word a = if 10 else 20 then; word b = if then;");
+            x.lay(d[0]);
+            Check.due("one cell then", x.call(0), 1);
+            stack(x, "if of " + d[0], d[1]);
+            x.undo();
+            Check.due("none then", x.call(1), 0);
+            stack(x, "if then of " + d[0]);
+        }
     }
 
     /** Promise 10: 'what it NEEDS must be there'. */
@@ -599,8 +614,10 @@ public final class MachineEdgesTest {
         gone.run(7);
         gone.run(1);
         Check.due("what was there is not", gone.cell(1), 0);
+        Check.due("none above", gone.cell(-1), 0);
         gone.run(8);
         Check.due("what was put by is not", gone.put(0), 0);
+        Check.due("none above", gone.put(-1), 0);
         StackWords none = new StackWords();
         Check.due("none", none.cell(0), 0);
         Check.due("none", none.put(0), 0);

@@ -64,6 +64,8 @@ public final class ShufflesEdgesTest {
         Check.due("5 of one", x.shuffled(1, 1111), -1);
         Check.due("5 between, of one", x.shuffled(1, 11112), 1111);
         Check.due("6 between, of one", x.shuffled(1, 1111122), -1);
+        Check.due("5 between, of the greatest", x.shuffled(3, 6611112), 3333);
+        Check.due("5 at the end, of the greatest", x.shuffled(3, 661111), -1);
         int[] more = {1, 4, 7};
         for (int digit : more) {
             Check.due("5 between by " + digit, x.shuffled(3, 100 + 10 * digit + 2) != -1, true);

@@ -439,7 +439,14 @@ public final class TextEdgesTest {
         Check.faultAtMark("word a=;word ^a=;", 3);
         Check.faultAtMark("word a=;word b=;word c=;word d=;word f=;word ^f=;", 3);
         Check.faultAtMark("word a=;word ^a", 3);
-        Check.of("word a=;word aa=;word aaa=;word aaaa=;word aaaaa=;word aaaaaaaa=;");
+        for (char letter = 'a'; letter <= 'z'; letter++) {
+            Check.of("word x=;word xx=;word xxx=;word xxxx=;word xxxxx=;word xxxxxxxx=x xx xxx xxxx xxxxx;".replace('x', letter));
+        }
+        String[][] close = {{"ab", "ba"}, {"az", "b"}, {"a", "ba"}, {"z", "aa"}, {"zz", "aaa"}, {"abcdefgh", "abcdefgi"}, {"abcdefgh", "bbcdefgh"}, {"abcdefg", "abcdefgh"}};
+        for (String[] pair : close) {
+            Check.due("other names", Check.of("word " + pair[0] + "=;word " + pair[1] + "=" + pair[0] + ";").calls(1), 1);
+            Check.faultAtMark("word " + pair[0] + "=;word c=^" + pair[1] + ";", 5);
+        }
         Check.faultAtMark("word a = ^a;", 5);
         Check.faultAtMark("word a = ^b;word b=;", 5);
         Check.faultAtMark("word a=;word b = a ^c a;word c=;", 5);
@@ -545,6 +552,11 @@ public final class TextEdgesTest {
                 Check.due("30 by " + operator, Check.of(many + ";").about(11), 30);
                 Check.faultAtMark(many + operator + "^1;", 2);
             }
+        }
+        StackWords again = new StackWords();
+        for (int n = 1; n <= 20; n++) {
+            Check.due("30 again and again", Check.code(again, "takes " + n + "+1".repeat(29) + ";"), 0);
+            Check.due("each for itself", again.takes(0, 0), n + 29);
         }
         StackWords x = Check.of("takes " + twentyNine + "+1;");
         Check.due("31", Check.code(x, "takes " + twentyNine + "+1+1;"), -1);

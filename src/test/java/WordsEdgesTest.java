@@ -258,6 +258,12 @@ public final class WordsEdgesTest {
         Check.due("an if within an if", Check.of("word a = neg if 1 if neg else 1 drop neg then else neg neg then neg;").word(0, 5), 8);
         Check.due("an if in a loop", Check.of("word a = times 4 1 if neg neg else neg then next;").word(0, 5), 1 + 4 * 4);
         Check.due("a loop in an if", Check.of("word a = if times 4 neg next else neg neg then;").word(0, 5), 1 + 1 + 4);
+        // 1 + 2 * (1 + 2 * (1 + 2 * (1 + 2 * 1))) = 31, be there others ahead that are closed.
+        String deep = "times 2 times 2 times 2 times 2 neg next next next next;";
+        Check.due("four deep", Check.of("word a = " + deep).word(0, 5), 31);
+        Check.due("behind a loop", Check.of("word a = times 2 next " + deep).word(0, 5), 32);
+        Check.due("behind an if", Check.of("word a = if then " + deep).word(0, 5), 32);
+        Check.due("behind two ways", Check.of("word a = if else then if else then " + deep).word(0, 5), 33);
     }
 
     /** 'at one place the least'; 'the first by its place'. */
