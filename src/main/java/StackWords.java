@@ -681,6 +681,8 @@ public final class StackWords {
                 sort = END;
             } else if (isLetterAt(next)) {
                 readLetters();
+                value = sort == NAME ? keyFrom(place, next) : NONE;
+                sort = value == NONE ? sort : KEY;
             } else if (isDigitAt(next)) {
                 readDigits();
             } else if (text[next] > 0 && SIGNS.indexOf((char) text[next]) >= 0) {
@@ -698,12 +700,7 @@ public final class StackWords {
                 name = name * 32 + (text[next] - 'a' + 1);
                 next++;
             }
-            if (next - place > MOST_LETTERS) {
-                sort = BAD;
-                return;
-            }
-            value = keyFrom(place, next);
-            sort = value == NONE ? NAME : KEY;
+            sort = next - place <= MOST_LETTERS ? NAME : BAD;
         }
 
         private void readDigits() {
@@ -1366,8 +1363,8 @@ public final class StackWords {
                     }
                     break;
                 case POP:
-                    putCount = Math.max(0, putCount - 1);
-                    cells[base] = puts[putCount];
+                    cells[base] = putCount > 0 ? puts[putCount - 1] : 0;
+                    putCount = putCount > 0 ? putCount - 1 : 0;
                     break;
                 case ADD: cells[base] = b + c; break;
                 case SUB: cells[base] = b - c; break;

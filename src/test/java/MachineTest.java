@@ -111,6 +111,11 @@ public final class MachineTest {
         Check.due("pop", x.run(8), 2);
         stack(x, "popped", 1, 2);
         Check.due("put by", x.about(3), 5);
+        x.run(12);
+        Check.due("push what is below 0", x.run(7), 1);
+        Check.due("put below 0", x.put(0), -2);
+        Check.due("pop it", x.run(8), 2);
+        stack(x, "below 0", 1, -2);
     }
 
     private static void calling() {
@@ -176,6 +181,8 @@ public final class MachineTest {
         Check.due("none", x.inline(3), -1);
         Check.due("none", x.inline(-1), -1);
         Check.due("acts", x.about(6), 3);
+        Check.due("no one any more", x.inline(0), 0);
+        x.undo();
         x.clear();
         x.undo();
         Check.due("undone", x.about(4), 5);
